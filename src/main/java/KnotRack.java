@@ -285,7 +285,7 @@ public final class KnotRack {
 
     public int holdsUpTo(int line) throws IndexOutOfBoundsException {
         checkLine(line);
-        return loadHeld(line);
+        return loadHeldWith(line, NONE, NONE);
     }
 
     public int wouldGiveWay(int line, int load)
@@ -316,7 +316,7 @@ public final class KnotRack {
         int strongest = NONE;
         int greatest = NONE;
         for (int line = 0; line < lineCount; line++) {
-            int load = loadHeld(line);
+            int load = holdsUpTo(line);
             if (load > greatest) {
                 strongest = line;
                 greatest = load;
@@ -532,10 +532,6 @@ public final class KnotRack {
             }
         }
         return NONE;
-    }
-
-    private int loadHeld(int line) {
-        return loadHeldWith(line, NONE, NONE);
     }
 
     /** The greatest load up to which the line holds each one, if the knot were tied at the place (NONE: the line as it is). */

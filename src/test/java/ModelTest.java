@@ -423,8 +423,9 @@ public final class ModelTest {
         }
     }
 
-    /** The loads of a run stay below its range, so that spills and strengths meet. */
+    /** The loads of a run stay below its range, so that spills and strengths meet, and are often equal. */
     private static int load(int range) {
+        if (next(3) == 0) return range / 10 * between(1, 9);
         return next(4) == 0 ? mostly(1, 999) : mostly(1, range);
     }
 

@@ -121,6 +121,13 @@ public final class PromiseTest {
         return rack;
     }
 
+    private static void fiveRopes(KnotRack rack, int hitch, int bend) {
+        int line = rack.tie(hitch, 999);
+        for (int rope = 1; rope < 5; rope++) {
+            rack.join(line, bend, 999);
+        }
+    }
+
     private static void newObject() {
         promise = 1;
         KnotRack rack = new KnotRack();
@@ -310,6 +317,11 @@ public final class PromiseTest {
         due("pull(0, 999)", -1, () -> two.pull(0, 999));
         due("pull(1, 6)", 0, () -> two.pull(1, 6));
         due("ropesOf(0): another line stays", 1, () -> two.ropesOf(0));
+        KnotRack beside = mixed();
+        fiveRopes(beside, 0, 6);
+        beside.tie(1, 999);
+        due("pull(0, 100) at five ropes", -1, () -> beside.pull(0, 100));
+        due("knotOf(1, 0): another line stays", 1, () -> beside.knotOf(1, 0));
         for (int line : new int[] {2, 6, -1, Integer.MIN_VALUE, Integer.MAX_VALUE}) {
             dueThrow("pull(" + line + ", 5)", INDEX, two, () -> two.pull(line, 5));
             dueThrow("pull(" + line + ", 0)", INDEX, two, () -> two.pull(line, 0));
@@ -471,6 +483,9 @@ public final class PromiseTest {
         due("fallsApartAt(15): a chain of 16", 16, () -> chain.fallsApartAt(15));
         chain.setSpill(0, 999, -1);
         due("fallsApartAt(15)", 999, () -> chain.fallsApartAt(15));
+        KnotRack frail = plain();
+        frail.setSpill(0, 1, -1);
+        due("fallsApartAt(0): under each load", 1, () -> frail.fallsApartAt(0));
         for (int none : new int[] {7, 16, -1, Integer.MIN_VALUE, Integer.MAX_VALUE}) {
             dueThrow("fallsApartAt(" + none + ")", INDEX, rack, () -> rack.fallsApartAt(none));
         }
@@ -607,6 +622,28 @@ public final class PromiseTest {
         due("holdsUpTo(0): it fails at 21, and holds again from 50 on", 20, () -> gap.holdsUpTo(0));
         due("holds(0, 21)", 0, () -> gap.holds(0, 21) ? 1 : 0);
         due("holds(0, 50)", 1, () -> gap.holds(0, 50) ? 1 : 0);
+        gap.setSpill(1, 21, 0);
+        due("holdsUpTo(0): it would fail just where it spills", 100, () -> gap.holdsUpTo(0));
+        gap.addKnot(1, 30, 1);
+        gap.setSpill(2, 21, 1);
+        due("retie", 1, () -> gap.retie(0, 0, 2));
+        due("holdsUpTo(0): two spills at the same load", 100, () -> gap.holdsUpTo(0));
+        gap.setSpill(1, 20, 0);
+        due("holdsUpTo(0): the second one spills earlier", 100, () -> gap.holdsUpTo(0));
+        KnotRack same = new KnotRack();
+        same.addKnot(1, 100, 1);
+        same.addKnot(1, 10, 1);
+        same.addKnot(1, 90, 1);
+        same.setSpill(1, 50, 0);
+        same.setSpill(2, 50, 1);
+        same.tie(2, 100);
+        due("holdsUpTo(0): a weak form that no load leaves", 100, () -> same.holdsUpTo(0));
+        KnotRack chain = chain();
+        chain.tie(15, 999);
+        due("holdsUpTo(0): through 16 forms", 15, () -> chain.holdsUpTo(0));
+        KnotRack five = plain();
+        fiveRopes(five, 0, 1);
+        due("holdsUpTo(0): five ropes", 999, () -> five.holdsUpTo(0));
         KnotRack gone = withGoneLine();
         due("holdsUpTo(0), gone", 0, () -> gone.holdsUpTo(0));
         for (int none : new int[] {2, 6, -1, Integer.MIN_VALUE, Integer.MAX_VALUE}) {
@@ -693,6 +730,10 @@ public final class PromiseTest {
         rack.addKnot(0, 61, 1);
         rack.addKnot(0, 61, 1);
         dueMean(353.0 / 6.0, rack);
+        for (int knot = 6; knot < 16; knot++) {
+            rack.addKnot(0, 100, 1);
+        }
+        dueMean(1353.0 / 16.0, rack);
     }
 
     private static void dueMean(double want, KnotRack rack) {
