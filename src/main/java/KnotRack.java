@@ -37,7 +37,7 @@ public final class KnotRack {
     private final int[] ropeCounts;
     private int lineCount;
 
-    /** MAX_ROPES elements for each line, which slot() finds; a rope bears the number of the place at which it starts. */
+    /** MAX_ROPES elements for each line, at slot(); those from its ropeCounts on are not in use. */
     private final int[] tiedKnots;
     private final int[] ropeStrengths;
 
@@ -534,7 +534,7 @@ public final class KnotRack {
         return NONE;
     }
 
-    /** The greatest load up to which the line holds each one, if the knot were tied at the place (NONE: the line as it is). */
+    /** The greatest load up to which the line holds each one with this knot at the place; NONE for the line as it is. */
     private int loadHeldWith(int line, int place, int knot) {
         if (isGone(line)) {
             return 0;
@@ -548,8 +548,8 @@ public final class KnotRack {
     }
 
     /**
-     * The greatest load up to which the place holds each one with this knot. It goes from form to form, as the
-     * load grows: a form that spills into a stronger one can fail ahead of its spill, so only the loads up to there count.
+     * The greatest load up to which the place holds each one with this knot. It goes from form to form as the load
+     * grows, because a form may spill into a stronger one: a place that fails under a load can hold a greater one.
      */
     private int loadHeldAt(int line, int place, int knot) {
         int held = 0;
