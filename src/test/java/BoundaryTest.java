@@ -488,6 +488,31 @@ public final class BoundaryTest {
                 tie(0, 70) = 1
                 join(1, 1, 60) = 2
                 """);
+        Runs.of(5, "At most 6, numbered from 0; each has ropes, 1 to 5", PLAIN + """
+                5 x tie(0, 500)
+                tie(0, 450)
+                4 x join(0, 1, 400)
+                4 x join(1, 1, 400)
+                4 x join(2, 1, 400)
+                4 x join(3, 1, 400)
+                3 x join(4, 1, 400)
+                3 x join(5, 1, 400)
+                join(4, 1, 350) = 5
+                join(5, 1, 300) = 5
+                join(4, 1, 5) = throws.IllegalStateException
+                join(5, 1, 5) = throws.IllegalStateException
+                strengthAt(4, 4) = 350
+                strengthAt(5, 0) = 450
+                strengthAt(5, 4) = 300
+                knotOf(5, 4) = 1
+                weakestPlace(5) = 4
+                retie(5, 4, 1) = 1
+                pull(4, 400) = 4
+                ropesOf(5) = 5
+                pull(5, 300) = -1
+                pull(5, 301) = 4
+                join(5, 1, 200) = 5
+                """);
         Runs.of(5, "Returns how many ropes the line has then.", PLAIN + """
                 tie(0, 5)
                 join(0, 1, 5) = 2
@@ -726,6 +751,13 @@ public final class BoundaryTest {
                 spillsInto(1) = 0
                 pull(0, 1) = -1
                 knotOf(0, 0) = 0
+                """);
+        Runs.of(7, "if the line holds it, each of its knots becomes its form under this load.", SPILLING + """
+                tie(0, 999)
+                4 x join(0, 6, 999)
+                tie(1, 999)
+                pull(0, 100) = -1
+                knotOf(1, 0) = 1
                 """);
         Runs.of(7, "Otherwise the first place that does not hold it gives way", PLAIN + """
                 tie(0, 100)
@@ -1218,6 +1250,17 @@ public final class BoundaryTest {
                 strengthAt(0, 4) = 1
                 """);
         Runs.of(23, "or of the weaker one of its two ropes", PLAIN + """
+                tie(0, 200)
+                join(0, 1, 201)
+                join(0, 1, 202)
+                join(0, 1, 202)
+                join(0, 1, 999)
+                strengthAt(0, 1) = 200
+                strengthAt(0, 2) = 201
+                strengthAt(0, 3) = 202
+                strengthAt(0, 4) = 202
+                """);
+        Runs.of(23, "or of the weaker one of its two ropes", PLAIN + """
                 5 x tie(0, 1)
                 tie(0, 300)
                 join(5, 1, 200)
@@ -1429,6 +1472,19 @@ public final class BoundaryTest {
                 holdsUpTo(0) = 100
                 setSpill(0, 90, -1)
                 holdsUpTo(0) = 89
+                """);
+        Runs.of(26, "Returns the greatest load up to which it holds each one", """
+                addKnot(1, 100, 1) = 0
+                addKnot(1, 10, 1) = 1
+                addKnot(1, 90, 1) = 2
+                setSpill(2, 50, 1)
+                setSpill(1, 50, 0)
+                tie(2, 100)
+                holdsUpTo(0) = 100
+                setSpill(1, 49, 0)
+                holdsUpTo(0) = 100
+                setSpill(1, 51, 0)
+                holdsUpTo(0) = 49
                 """);
         Runs.of(26, "Returns the greatest load up to which it holds each one", SPILLING + """
                 tie(1, 300)
