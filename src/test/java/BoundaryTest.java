@@ -34,7 +34,7 @@ public final class BoundaryTest {
             setSpill(5, 200, 4)
             """;
 
-    /** 16 hitches; each one spills into the one ahead of it, the first one into nothing, and 0 at the greatest load. */
+    /** 16 hitches; each one spills into the one ahead of it, the first one at the greatest load, 16, and into nothing. */
     private static final String CHAIN = """
             addKnot(1, 10, 1)
             addKnot(1, 11, 1)
@@ -994,7 +994,7 @@ public final class BoundaryTest {
                 """);
     }
 
-    /** For a question that takes a knot and a load; a name of which no answer is looked at but those that are refused. */
+    /** For a question that takes a knot and a load, and has the same answer for the knot 0 of PLAIN under each load. */
     private static void noSuchKnotOrLoad(int promise, String name, int answer) {
         String index = " = throws.IndexOutOfBoundsException\n";
         String argument = " = throws.IllegalArgumentException\n";
