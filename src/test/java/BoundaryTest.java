@@ -133,6 +133,20 @@ public final class BoundaryTest {
                 """);
     }
 
+    /** The last promised calls: no row asks anything, as a comparison would need more of them. */
+    private static void fullUse() {
+        Runs.of(1, "An object is used for at most 512 calls after it has been made", """
+                addKnot(1, 50, 5) = 0
+                510 x setSpill(0, 40, -1)
+                setSpill(0, 70, -1) = 40
+                """);
+        Runs.of(1, "An object is used for at most 512 calls after it has been made", PLAIN + """
+                tie(0, 500)
+                508 x pull(0, 1)
+                pull(0, 501) = 0
+                """);
+    }
+
     private static void addKnot() {
         Runs.of(2, "if kind is not 0 or 1", """
                 addKnot(0, 50, 5) = 0
@@ -1789,6 +1803,7 @@ public final class BoundaryTest {
 
     public static void main(String[] args) {
         newObject();
+        fullUse();
         addKnot();
         setSpill();
         tie();
